@@ -637,8 +637,8 @@ public final class BurstTrie {
         abstract int form();
     }
 
+    /** Its own record, if there is one, is the one of its prefix in the row of all records. */
     private static final class AccessNode extends Node {
-        Record own;
         Node firstChild;
 
         AccessNode(long prefix, int depth, AccessNode parent) {
@@ -693,11 +693,9 @@ public final class BurstTrie {
         /** Puts a record of a bursting container in its place below this node. */
         void takeOver(Record record) {
             if (record.key == prefix) {
-                own = record;
                 return;
             }
-            Node child = childFor(record.key);
-            if (child instanceof Container container) {
+            if (childFor(record.key) instanceof Container container) {
                 container.takeIn(record);
             } else {
                 newChildFor(record.key).takeIn(record);
@@ -1011,14 +1009,10 @@ public final class BurstTrie {
             if (node instanceof Container container) {
                 container.takeIn(record);
                 growIfDue(container);
-            } else if (node instanceof AccessNode access) {
-                if (access.prefix == record.key) {
-                    access.own = record;
-                } else {
-                    Container child = access.newChildFor(record.key);
-                    child.accesses = 1;
-                    child.takeIn(record);
-                }
+            } else if (node instanceof AccessNode access && access.prefix != record.key) {
+                Container child = access.newChildFor(record.key);
+                child.accesses = 1;
+                child.takeIn(record);
             }
         }
 
@@ -1082,7 +1076,6 @@ public final class BurstTrie {
                 shrinkIfDue(container);
                 collapseFrom(container.parent);
             } else if (node instanceof AccessNode access) {
-                access.own = null;
                 collapseFrom(access);
             }
         }
@@ -1190,7 +1183,6 @@ public final class BurstTrie {
             }
             AccessNode access = (AccessNode) node;
             AccessNode copy = new AccessNode(access.prefix, access.depth, newParent);
-            copy.own = access.own == null ? null : newRecords.find(access.prefix);
             for (Node child = access.firstChild; child != null; child = child.sibling) {
                 Node newChild = duplicateNode(child, copy, newRecords, level + 1);
                 if (newChild != null) {

@@ -3,8 +3,9 @@ import java.util.NoSuchElementException;
 /**
  * A sorted map from words of at most 12 letters to ints, held as a burst trie.
  *
- * <p>Every record stands in two places: in the row of all records by key, which answers whatever
- * depends on the order alone, and in the trie, whose structure and costs can be examined.
+ * <p>All records stand in a row by key, which answers whatever depends on the order alone. Those
+ * that no access node owns are linked in the containers of the trie, too, whose structure and costs
+ * can be examined.
  */
 public final class BurstTrie {
     public static final int NONE = -1;

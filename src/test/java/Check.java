@@ -1,4 +1,7 @@
+import java.util.Map;
 import java.util.Objects;
+import java.util.Set;
+import java.util.TreeSet;
 import java.util.concurrent.Callable;
 
 /** What the tests share: counting wrong answers, and writing words and rules as texts. */
@@ -13,14 +16,18 @@ final class Check {
         void run() throws Exception;
     }
 
+    /** What a call answers, or the class of what it throws. */
+    static Object answer(Callable<?> call) {
+        try {
+            return call.call();
+        } catch (Exception e) {
+            return e.getClass();
+        }
+    }
+
     /** Numbers are compared as longs. */
     static void due(Object want, Callable<?> call, String name) {
-        Object got;
-        try {
-            got = call.call();
-        } catch (Exception e) {
-            got = e.getClass();
-        }
+        Object got = answer(call);
         calls++;
         if (!Objects.equals(plain(want), plain(got))) {
             wrong++;
@@ -33,6 +40,15 @@ final class Check {
             call.run();
             return "nothing thrown";
         }, name);
+    }
+
+    /** Compares two views of objects, and tells only where they differ. */
+    static void same(Map<String, Object> want, Map<String, Object> got, String name) {
+        Set<String> questions = new TreeSet<>(want.keySet());
+        questions.addAll(got.keySet());
+        for (String question : questions) {
+            due(want.get(question), () -> got.get(question), name + ": " + question);
+        }
     }
 
     /** Ends the test. */

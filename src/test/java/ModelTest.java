@@ -84,13 +84,13 @@ public final class ModelTest {
         int value = dice.anyInt();
         int kind = dice.below(isGrowing && !dice.oneIn(8) ? 60 : 100);
         if (kind < 30) {
-            Check.due(answer(() -> model.put(key, value)), () -> x.put(key, value), name + "put " + key);
+            Check.due(Check.answer(() -> model.put(key, value)), () -> x.put(key, value), name + "put " + key);
         } else if (kind < 45) {
-            Check.due(answer(() -> model.add(key, value)), () -> x.add(key, value), name + "add " + key);
+            Check.due(Check.answer(() -> model.add(key, value)), () -> x.add(key, value), name + "add " + key);
         } else if (kind < 65) {
-            Check.due(answer(() -> model.get(key)), () -> x.get(key), name + "get " + key);
+            Check.due(Check.answer(() -> model.get(key)), () -> x.get(key), name + "get " + key);
         } else if (kind < 66 + removals * 3) {
-            Check.due(answer(() -> model.remove(key)), () -> x.remove(key), name + "remove " + key);
+            Check.due(Check.answer(() -> model.remove(key)), () -> x.remove(key), name + "remove " + key);
         } else if (kind < 86) {
             moveCursor(key);
         } else if (kind < 94) {
@@ -102,38 +102,26 @@ public final class ModelTest {
         }
     }
 
-    private interface Call {
-        Object run();
-    }
-
-    private static Object answer(Call call) {
-        try {
-            return call.run();
-        } catch (RuntimeException e) {
-            return e.getClass();
-        }
-    }
-
     private void moveCursor(long key) {
         int cursor = dice.oneIn(30) ? dice.anyInt() : dice.below(4);
         int kind = dice.below(14);
         if (kind < 2) {
             long prefix = prefix();
-            Check.due(answer(() -> model.open(cursor, prefix)), () -> x.open(cursor, prefix),
+            Check.due(Check.answer(() -> model.open(cursor, prefix)), () -> x.open(cursor, prefix),
                     name + "open " + cursor + " " + prefix);
         } else if (kind < 6) {
-            Check.due(answer(() -> model.next(cursor)), () -> x.next(cursor), name + "next " + cursor);
+            Check.due(Check.answer(() -> model.next(cursor)), () -> x.next(cursor), name + "next " + cursor);
         } else if (kind < 9) {
-            Check.due(answer(() -> model.previous(cursor)), () -> x.previous(cursor),
+            Check.due(Check.answer(() -> model.previous(cursor)), () -> x.previous(cursor),
                     name + "previous " + cursor);
         } else if (kind < 11) {
-            Check.due(answer(() -> model.seek(cursor, key)), () -> x.seek(cursor, key),
+            Check.due(Check.answer(() -> model.seek(cursor, key)), () -> x.seek(cursor, key),
                     name + "seek " + cursor + " " + key);
         } else if (kind < 13) {
-            Check.due(answer(() -> model.removeAt(cursor)), () -> x.removeAt(cursor),
+            Check.due(Check.answer(() -> model.removeAt(cursor)), () -> x.removeAt(cursor),
                     name + "removeAt " + cursor);
         } else if (dice.oneIn(3)) {
-            Check.due(answer(() -> model.close(cursor)), () -> x.close(cursor), name + "close " + cursor);
+            Check.due(Check.answer(() -> model.close(cursor)), () -> x.close(cursor), name + "close " + cursor);
         }
     }
 
@@ -146,20 +134,20 @@ public final class ModelTest {
             int tree = dice.oneIn(10) ? dice.anyInt() : dice.below(22);
             int list = dice.oneIn(10) ? dice.anyInt() : dice.below(22);
             int collapse = dice.oneIn(10) ? dice.anyInt() : dice.below(dice.oneIn(2) ? 4 : 22);
-            Check.due(answer(() -> model.setLimits(tree, list, collapse)), () -> {
+            Check.due(Check.answer(() -> model.setLimits(tree, list, collapse)), () -> {
                 x.setLimits(tree, list, collapse);
                 return 0;
             }, name + "setLimits");
         } else if (kind < 8) {
-            Check.due(answer(() -> model.save(slot)), () -> {
+            Check.due(Check.answer(() -> model.save(slot)), () -> {
                 x.save(slot);
                 return 0;
             }, name + "save " + slot);
         } else if (kind < 9) {
-            Check.due(answer(() -> model.restore(slot)), () -> x.restore(slot), name + "restore " + slot);
+            Check.due(Check.answer(() -> model.restore(slot)), () -> x.restore(slot), name + "restore " + slot);
         } else {
             int a = dice.anyInt();
-            Check.due(answer(() -> model.append(a, a, a, a, a)), () -> x.append(a, a, a, a, a),
+            Check.due(Check.answer(() -> model.append(a, a, a, a, a)), () -> x.append(a, a, a, a, a),
                     name + "append");
         }
     }
@@ -173,11 +161,11 @@ public final class ModelTest {
                 int letter = start + i < text.length() ? text.charAt(start + i) & 255 : ' ';
                 four[i / 4] = four[i / 4] << 8 | letter;
             }
-            Check.due(answer(() -> model.append(four)),
+            Check.due(Check.answer(() -> model.append(four)),
                     () -> x.append(four[0], four[1], four[2], four[3], four[4]), name + "append");
         }
         int length = dice.oneIn(20) ? dice.anyInt() : Math.min(model.text.length(), text.length());
-        Check.due(answer(() -> model.setRule(length)), () -> x.setRule(length), name + "setRule " + text);
+        Check.due(Check.answer(() -> model.setRule(length)), () -> x.setRule(length), name + "setRule " + text);
         Check.due(model.errorPosition, () -> x.errorPosition(), name + "errorPosition " + text);
     }
 
@@ -185,10 +173,10 @@ public final class ModelTest {
         examineMap();
         examineStructure(prefix());
         int what = dice.below(11) - 1;
-        Check.due(answer(() -> model.counter(what)), () -> x.counter(what), name + "counter " + what);
+        Check.due(Check.answer(() -> model.counter(what)), () -> x.counter(what), name + "counter " + what);
         int index = dice.oneIn(10) ? dice.anyInt() : dice.below(model.size() + 2) - 1;
-        Check.due(answer(() -> model.keyAt(index)), () -> x.keyAt(index), name + "keyAt " + index);
-        Check.due(answer(() -> model.mostFrequent(index)), () -> x.mostFrequent(index),
+        Check.due(Check.answer(() -> model.keyAt(index)), () -> x.keyAt(index), name + "keyAt " + index);
+        Check.due(Check.answer(() -> model.mostFrequent(index)), () -> x.mostFrequent(index),
                 name + "mostFrequent " + index);
     }
 
@@ -196,27 +184,27 @@ public final class ModelTest {
         long key = key();
         long other = key();
         Check.due(model.size(), () -> x.size(), name + "size");
-        Check.due(answer(() -> model.frequency(key)), () -> x.frequency(key), name + "frequency " + key);
-        Check.due(answer(() -> model.lower(key)), () -> x.lower(key), name + "lower " + key);
-        Check.due(answer(() -> model.ceiling(key)), () -> x.ceiling(key), name + "ceiling " + key);
-        Check.due(answer(() -> model.prefixCount(key)), () -> x.prefixCount(key),
+        Check.due(Check.answer(() -> model.frequency(key)), () -> x.frequency(key), name + "frequency " + key);
+        Check.due(Check.answer(() -> model.lower(key)), () -> x.lower(key), name + "lower " + key);
+        Check.due(Check.answer(() -> model.ceiling(key)), () -> x.ceiling(key), name + "ceiling " + key);
+        Check.due(Check.answer(() -> model.prefixCount(key)), () -> x.prefixCount(key),
                 name + "prefixCount " + key);
-        Check.due(answer(() -> model.longestPrefix(key)), () -> x.longestPrefix(key),
+        Check.due(Check.answer(() -> model.longestPrefix(key)), () -> x.longestPrefix(key),
                 name + "longestPrefix " + key);
-        Check.due(answer(() -> model.sum(key, other)), () -> x.sum(key, other),
+        Check.due(Check.answer(() -> model.sum(key, other)), () -> x.sum(key, other),
                 name + "sum " + key + " " + other);
-        Check.due(answer(() -> model.cost(key)), () -> x.cost(key), name + "cost " + key);
+        Check.due(Check.answer(() -> model.cost(key)), () -> x.cost(key), name + "cost " + key);
         Check.due(model.meanCost(false), () -> x.meanCost(false), name + "numerator");
         Check.due(model.meanCost(true), () -> x.meanCost(true), name + "denominator");
     }
 
     private void examineStructure(long prefix) {
-        Check.due(answer(() -> model.kind(prefix)), () -> x.kind(prefix), name + "kind " + prefix);
+        Check.due(Check.answer(() -> model.kind(prefix)), () -> x.kind(prefix), name + "kind " + prefix);
         int what = dice.below(8) - 1;
-        Check.due(answer(() -> model.container(prefix, what)), () -> x.container(prefix, what),
+        Check.due(Check.answer(() -> model.container(prefix, what)), () -> x.container(prefix, what),
                 name + "container " + prefix + " " + what);
         int index = dice.below(8) - 1;
-        Check.due(answer(() -> model.recordAt(prefix, index)), () -> x.recordAt(prefix, index),
+        Check.due(Check.answer(() -> model.recordAt(prefix, index)), () -> x.recordAt(prefix, index),
                 name + "recordAt " + prefix + " " + index);
     }
 

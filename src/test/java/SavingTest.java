@@ -29,48 +29,25 @@ public final class SavingTest {
     }
 
     private static void same(BurstTrie x, BurstTrie y, String when) {
-        for (int what = 0; what <= 8; what++) {
-            int number = what;
-            Check.due(y.counter(number), () -> x.counter(number), "counter " + number + when);
-        }
-        Check.due(y.size(), () -> x.size(), "size" + when);
-        for (int i = 0; i < y.size(); i++) {
-            int index = i;
-            long key = y.keyAt(i);
-            Check.due(key, () -> x.keyAt(index), "keyAt " + i + when);
-            Check.due(y.frequency(key), () -> x.frequency(key), "frequency " + i + when);
-            Check.due(y.cost(key), () -> x.cost(key), "cost " + i + when);
-            Check.due(y.sum(key, w("zz")), () -> x.sum(key, w("zz")), "sum " + i + when);
-        }
-        for (String prefix : new String[] {"", "a", "b", "c", "cd", "cde", "d"}) {
-            Check.due(y.kind(w(prefix)), () -> x.kind(w(prefix)), "kind " + prefix + when);
-            if (y.kind(w(prefix)) >= 2) {
-                Check.due(Check.row(y, prefix), () -> Check.row(x, prefix), "row " + prefix + when);
-                for (int what = 0; what <= 5; what++) {
-                    int number = what;
-                    Check.due(y.container(w(prefix), number), () -> x.container(w(prefix), number),
-                            "container " + prefix + " " + what + when);
-                }
-            }
-        }
+        Check.same(View.of(y), View.of(x), when);
     }
 
     private static void wholeMap() {
         BurstTrie x = map();
         x.save(0);
-        same(x, map(), " after save");
+        same(x, map(), "after save");
         for (String word : new String[] {"a", "bd", "", "cd", "ba"}) {
             x.remove(w(word));
         }
         Check.putAll(x, "d", "da", "bcb", "a");
         Check.due(11, () -> x.restore(0), "restore tells the number of records");
-        same(x, map(), " after restore");
+        same(x, map(), "after restore");
         for (int i = 0; i < 11; i++) {
             x.remove(x.keyAt(0));
         }
         Check.due(0, () -> x.size(), "emptied");
         Check.due(11, () -> x.restore(0), "it stays saved");
-        same(x, map(), " after another restore");
+        same(x, map(), "after another restore");
     }
 
     private static void copiesAreApart() {
@@ -82,12 +59,12 @@ public final class SavingTest {
         x.get(w("bb"));
         x.remove(w("cd"));
         x.restore(0);
-        same(x, y, " after changes of a restored map");
+        same(x, y, "after changes of a restored map");
         x.remove(w("ba"));
         x.get(w("a"));
         y.remove(w("ba"));
         y.get(w("a"));
-        same(x, y, " when it goes on as before");
+        same(x, y, "when it goes on as before");
     }
 
     private static void slots() {
@@ -159,6 +136,6 @@ public final class SavingTest {
         Check.dueThrow(IllegalStateException.class, () -> x.restore(0), "restore of nothing");
         x.save(0);
         Check.dueThrow(IllegalStateException.class, () -> x.restore(1), "nothing in the other slot");
-        same(x, map(), " after exceptions");
+        same(x, map(), "after exceptions");
     }
 }

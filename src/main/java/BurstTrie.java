@@ -539,7 +539,7 @@ public final class BurstTrie {
                 return;
             }
             int place = countBelow(record.key);
-            for (int i = count; i > place && i < row.length; i--) {
+            for (int i = count; i > place && i > 0 && i < row.length; i--) {
                 row[i] = row[i - 1];
             }
             if (place >= 0 && place < row.length) {

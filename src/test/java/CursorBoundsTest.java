@@ -23,6 +23,7 @@ public final class CursorBoundsTest {
         ownRemovals();
         closing();
         apart();
+        nothingCounted();
         Check.finish();
     }
 
@@ -440,5 +441,25 @@ public final class CursorBoundsTest {
         atEnd(x, 3);
         next(x, 0, "a");
         previous(x, 2, "c");
+    }
+
+    /** Going about is no access; only removeAt is one. */
+    private static void nothingCounted() {
+        BurstTrie x = map("c", "a", "b", "ab");
+        Check.setRule(x, "1");
+        Object before = View.of(x);
+        Check.due(4, () -> x.open(0, 0), "open");
+        next(x, 0, "a", "ab", "b");
+        previous(x, 0, "b");
+        Check.due(1, () -> x.seek(0, w("c")), "seek");
+        next(x, 0, "c");
+        atEnd(x, 0);
+        Check.due(true, () -> x.close(0), "close");
+        Check.due(before, () -> View.of(x), "all answers are as before");
+        x.open(0, 0);
+        x.next(0);
+        x.removeAt(0);
+        Check.due(5, () -> x.container(0, 1), "removeAt is an access");
+        Check.due(1, () -> x.container(0, 2), "and a hit");
     }
 }

@@ -12,6 +12,7 @@ public final class MapBoundsTest {
         equalFrequencies();
         ranges();
         greatSums();
+        nothingCounted();
         Check.finish();
     }
 
@@ -170,6 +171,30 @@ public final class MapBoundsTest {
                 x.put((i / 10 + 1L) << 55 | (i % 10 + 1L) << 50, value);
             }
             Check.due(100L * value, () -> x.sum(0, LAST), "a hundred times " + value);
+        }
+    }
+
+    /** "these methods count nothing and move nothing", for a key that is there and for one that is not. */
+    private static void nothingCounted() {
+        for (int tree : new int[] {1, 20}) {
+            BurstTrie x = new BurstTrie();
+            x.setLimits(tree, 3, 2);
+            Check.setRule(x, "accesses > 7 or comparisons > 25");
+            Check.putAll(x, "b", "d", "a", "c", "ab");
+            x.get(w("b"));
+            Object before = View.of(x);
+            for (long key : new long[] {w("c"), w("e"), 0, LAST}) {
+                x.size();
+                x.frequency(key);
+                x.lower(key);
+                x.ceiling(key);
+                x.keyAt(4);
+                x.prefixCount(key);
+                x.longestPrefix(key);
+                x.mostFrequent(4);
+                x.sum(0, key);
+            }
+            Check.due(before, () -> View.of(x), "all answers are as before, T is " + tree);
         }
     }
 }

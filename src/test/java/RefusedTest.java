@@ -60,8 +60,8 @@ public final class RefusedTest {
         x.next(0);
         x.next(0);
         x.open(3, w("a"));
-        while (Check.answer(() -> x.next(3)) instanceof Long) {
-            // Goes on to the end.
+        for (int i = x.prefixCount(w("a")); i > 0; i--) {
+            x.next(3);
         }
     }
 

@@ -9,7 +9,7 @@ public final class SavingBoundsTest {
         inPlace();
         fromSlotToSlot();
         emptyAndFull();
-        everyForm();
+        allOfTheMap();
         rulesAndLimits();
         outsideTheMap();
         cursors();
@@ -122,18 +122,41 @@ public final class SavingBoundsTest {
         Check.dueThrow(IllegalStateException.class, () -> x.put(w("zz"), 1), "record 101");
     }
 
-    /** The order of a list, the form of a tree, own records, counters and frequencies. */
-    private static void everyForm() {
+    /** Access nodes with an own record, a list that was a tree and a tree; all counters are above 0. */
+    private static BurstTrie everyForm() {
         BurstTrie x = new BurstTrie();
         Check.setRule(x, "size > 5");
         x.setLimits(3, 2, 1);
-        Check.putAll(x, "bd", "a", "ba", "", "bc", "ab", "bb", "aba", "c", "cc", "bda");
+        Check.putAll(x, "bd", "a", "ba", "", "bc", "ab", "bb", "aba", "bda");
         x.get(w("a"));
         x.get(w("bd"));
         x.remove(w("ba"));
-        Check.due(1, () -> x.kind(0), "an access node");
-        Check.due(2, () -> x.kind(w("a")), "a list");
-        Check.due(3, () -> x.kind(w("b")), "a tree");
+        Check.putAll(x, "c", "cc", "ca", "cb");
+        x.setLimits(3, 4, 1);
+        x.remove(w("ca"));
+        x.setLimits(3, 2, 1);
+        Check.putAll(x, "da", "db", "ea", "eb");
+        Check.setRule(x, "depth = 1");
+        x.get(w("da"));
+        x.get(w("eb"));
+        x.remove(w("db"));
+        Check.setRule(x, "size > 5");
+        return x;
+    }
+
+    /** "the whole map with its structure, its counters". */
+    private static void allOfTheMap() {
+        BurstTrie x = everyForm();
+        int[] kinds = {1, 2, 3, 2, 2, 1};
+        for (int i = 0; i < kinds.length; i++) {
+            String prefix = "abcde".substring(Math.max(0, i - 1), i);
+            Check.due(kinds[i], () -> x.kind(w(prefix)), "kind " + prefix);
+        }
+        for (int what = 0; what <= 8; what++) {
+            int number = what;
+            Check.due(true, () -> x.counter(number) > 0, "counter " + what + " is above 0");
+        }
+        int size = x.size();
         Object then = View.of(x);
         x.save(0);
         Check.due(then, () -> View.of(x), "save changes nothing");
@@ -141,8 +164,20 @@ public final class SavingBoundsTest {
             x.remove(x.keyAt(x.size() / 2));
         }
         Check.putAll(x, "bd", "q");
-        Check.due(10, () -> x.restore(0), "restore");
+        Check.due(size, () -> x.restore(0), "restore");
         Check.due(then, () -> View.of(x), "all that was saved");
+        Map<String, Object> due = View.behind(SavingBoundsTest::everyForm);
+        // Only one of the two objects has something to restore.
+        due.keySet().removeIf(question -> question.startsWith("restore"));
+        Map<String, Object> got = View.behind(() -> {
+            BurstTrie y = everyForm();
+            y.save(0);
+            Check.putAll(y, "q");
+            y.restore(0);
+            return y;
+        });
+        got.keySet().retainAll(due.keySet());
+        Check.same(due, got, "it goes on as before");
     }
 
     /** "its limits and its rule", also while a text was read in between. */

@@ -17,6 +17,7 @@ public final class StructureBoundsTest {
         countersAtFirst();
         eachCounter();
         depths();
+        nothingCounted();
         Check.finish();
     }
 
@@ -236,5 +237,25 @@ public final class StructureBoundsTest {
         Check.due(1, () -> x.kind(w("aa")), "it is one");
         x.remove(w("aa"));
         Check.due(1, () -> x.counter(3), "the container b");
+    }
+
+    /** To look at the structure is no access, and bursts nothing. */
+    private static void nothingCounted() {
+        BurstTrie x = burst("aa", "ab", "b", "");
+        Check.setRule(x, "1");
+        Object before = View.of(x);
+        for (String word : new String[] {"", "a", "aa", "ab", "b", "c"}) {
+            x.kind(w(word));
+            x.cost(w(word));
+            for (int number = 0; number <= 5; number++) {
+                int what = number;
+                Check.answer(() -> x.container(w(word), what));
+                Check.answer(() -> x.recordAt(w(word), what));
+                x.counter(what);
+            }
+            x.meanCost(true);
+            x.meanCost(false);
+        }
+        Check.due(before, () -> View.of(x), "all answers are as before");
     }
 }

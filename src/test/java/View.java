@@ -7,6 +7,7 @@ import java.util.function.Supplier;
 final class View {
     private static final long LAST = Check.word("zzzzzzzzzzzz");
     private static final int SPACES = 0x20202020;
+    private static final int MOST_RECORDS = 100;
 
     private final Map<String, Object> answers = new LinkedHashMap<>();
 
@@ -83,28 +84,19 @@ final class View {
         BurstTrie remover = make.get();
         ask("removeAt " + cursor, () -> remover.removeAt(cursor));
         BurstTrie walker = make.get();
-        ask("keys behind " + cursor, () -> keysBehind(walker, cursor));
-        ask("keys of " + cursor, () -> keysInFront(walker, cursor));
+        ask("keys behind " + cursor, () -> row(() -> walker.next(cursor)));
+        ask("keys of " + cursor, () -> row(() -> walker.previous(cursor)));
         BurstTrie closer = make.get();
         ask("close " + cursor, () -> closer.close(cursor));
     }
 
-    private static String keysBehind(BurstTrie x, int cursor) {
+    /** The keys that a call answers again and again, and what it throws in the end. */
+    private static String row(Callable<?> call) {
         StringBuilder keys = new StringBuilder();
-        Object key = Check.answer(() -> x.next(cursor));
-        while (key instanceof Long) {
+        Object key = Check.answer(call);
+        for (int i = 0; i < MOST_RECORDS && key instanceof Long; i++) {
             keys.append(key).append(' ');
-            key = Check.answer(() -> x.next(cursor));
-        }
-        return keys.append(key).toString();
-    }
-
-    private static String keysInFront(BurstTrie x, int cursor) {
-        StringBuilder keys = new StringBuilder();
-        Object key = Check.answer(() -> x.previous(cursor));
-        while (key instanceof Long) {
-            keys.append(key).append(' ');
-            key = Check.answer(() -> x.previous(cursor));
+            key = Check.answer(call);
         }
         return keys.append(key).toString();
     }

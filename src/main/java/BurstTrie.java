@@ -104,12 +104,13 @@ public final class BurstTrie {
             throws IllegalArgumentException, ArithmeticException, IllegalStateException {
         requireKey(key);
         Record record = trie.records.find(key);
-        long value = record == null ? amount : (long) record.value + amount;
-        if (value < Integer.MIN_VALUE || value > Integer.MAX_VALUE) {
+        long exact = record == null ? amount : (long) record.value + amount;
+        int value = (int) exact;
+        if (value != exact) {
             throw new ArithmeticException();
         }
-        assign(key, (int) value);
-        return (int) value;
+        assign(key, value);
+        return value;
     }
 
     public int remove(long key) throws IllegalArgumentException, NoSuchElementException {
@@ -571,36 +572,26 @@ public final class BurstTrie {
 
         /** The record at a place of the order by descending frequency; null if there is none. */
         Record byFrequency(int place) {
-            if (place < 0 || place >= count) {
-                return null;
-            }
-            int skipped = 0;
-            int frequency = greatestFrequencyBelow(Integer.MAX_VALUE);
-            // Each round goes on to the next lower frequency, so there are no more rounds than records.
-            for (int round = 0; round < count; round++) {
-                for (int i = 0; i < count; i++) {
-                    Record record = at(i);
-                    if (record != null && record.frequency == frequency) {
-                        if (skipped == place) {
-                            return record;
-                        }
-                        skipped++;
-                    }
+            for (int i = 0; i < count; i++) {
+                Record record = at(i);
+                if (record != null && countMoreFrequent(record) == place) {
+                    return record;
                 }
-                frequency = greatestFrequencyBelow(frequency);
             }
             return null;
         }
 
-        private int greatestFrequencyBelow(int bound) {
-            int greatest = NONE;
+        /** How many records stand before one in the order by descending frequency. */
+        private int countMoreFrequent(Record record) {
+            int before = 0;
             for (int i = 0; i < count; i++) {
-                Record record = at(i);
-                if (record != null && record.frequency < bound) {
-                    greatest = Math.max(greatest, record.frequency);
+                Record other = at(i);
+                if (other != null && (other.frequency > record.frequency
+                        || (other.frequency == record.frequency && other.key < record.key))) {
+                    before++;
                 }
             }
-            return greatest;
+            return before;
         }
 
         void copyFrom(SortedRecords other) {
@@ -1179,18 +1170,17 @@ public final class BurstTrie {
             if (node instanceof Container container) {
                 return container.duplicate(newParent, newRecords);
             }
-            if (level > Words.LONGEST || !(node instanceof AccessNode)) {
-                return null;
-            }
-            AccessNode access = (AccessNode) node;
-            AccessNode copy = new AccessNode(access.prefix, access.depth, newParent);
-            for (Node child = access.firstChild; child != null; child = child.sibling) {
-                Node newChild = duplicateNode(child, copy, newRecords, level + 1);
-                if (newChild != null) {
-                    copy.hang(newChild);
+            if (node instanceof AccessNode access && level <= Words.LONGEST) {
+                AccessNode copy = new AccessNode(access.prefix, access.depth, newParent);
+                for (Node child = access.firstChild; child != null; child = child.sibling) {
+                    Node newChild = duplicateNode(child, copy, newRecords, level + 1);
+                    if (newChild != null) {
+                        copy.hang(newChild);
+                    }
                 }
+                return copy;
             }
-            return copy;
+            return null;
         }
     }
 

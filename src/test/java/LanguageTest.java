@@ -10,6 +10,7 @@ public final class LanguageTest {
     private static final List<String> NEVER = List.of("->", "::", "Exact\\b", "\\btry\\b", "\\bcatch\\b",
             "\\bfinally\\b", "\\bassert\\b", "\\bsynchronized\\b", "\\brecord\\s+[A-Z]", "\\bvar\\b",
             "\\bdouble\\b", "\\bfloat\\b", "\\.equals\\(", "hashCode", "toString", "\\bSystem\\.(?!arraycopy)",
+            "\\bMath\\.(?!max\\(|min\\()", "\\b(Integer|Long|Short|Byte|Character|Boolean|Arrays|List)\\b",
             "\\bThread\\b", "\\bObject\\b", "\\bprotected\\b", "\\bpackage\\b", "new \\w+\\[[^\\]]*\\]\\[",
             "\\bthrow new (?!IllegalStateException|IllegalArgumentException|IndexOutOfBoundsException"
                     + "|ArithmeticException|NoSuchElementException)",

@@ -9,6 +9,7 @@ public final class SavingBoundsTest {
         inPlace();
         fromSlotToSlot();
         emptyAndFull();
+        deepest();
         allOfTheMap();
         rulesAndLimits();
         outsideTheMap();
@@ -120,6 +121,32 @@ public final class SavingBoundsTest {
         Check.due(100, () -> x.restore(1), "a full map");
         Check.due(full, () -> View.of(x), "all of it");
         Check.dueThrow(IllegalStateException.class, () -> x.put(w("zz"), 1), "record 101");
+    }
+
+    /** Access nodes down to depth 11, with containers of one record each at depth 12. */
+    private static void deepest() {
+        BurstTrie x = new BurstTrie();
+        Check.setRule(x, "1");
+        String eleven = "azazazazaza";
+        Check.putAll(x, eleven + "b", eleven + "c", eleven);
+        for (int i = 0; i < 12; i++) {
+            x.get(w(eleven + "b"));
+        }
+        Check.due(1, () -> x.kind(w(eleven)), "an access node at depth 11");
+        Check.due(2, () -> x.kind(w(eleven + "b")), "a list at depth 12");
+        Check.due(12, () -> x.counter(0), "access nodes");
+        Object then = View.of(x);
+        x.save(0);
+        for (String last : new String[] {"", "b", "c"}) {
+            x.remove(w(eleven + last));
+        }
+        Check.due(3, () -> x.restore(0), "restore");
+        Check.due(1, () -> x.kind(w(eleven)), "the access node at depth 11 again");
+        Check.due(2, () -> x.kind(w(eleven + "b")), "the list at depth 12 again");
+        Check.due(12, () -> x.counter(0), "access nodes again");
+        Check.due(12, () -> x.counter(3), "the greatest depth again");
+        Check.due(then, () -> View.of(x), "all that was saved");
+        Check.due(11, () -> x.get(w(eleven)), "its value");
     }
 
     /** Access nodes with an own record, a list that was a tree and a tree; all counters are above 0. */
